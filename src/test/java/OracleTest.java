@@ -10,7 +10,7 @@ import java.util.Random;
  */
 public final class OracleTest {
     private static final int NONE = -1, UNKNOWN = -2, OUTSIDE = -3, STATE = -4, ROOM = -5;
-    private static final int RUNS = 600, MOST_CALLS = 512, MOST_TOLD = 20;
+    private static final int RUNS = 400, MOST_CALLS = 512, MOST_TOLD = 20;
 
     private static final class Formula {
         int kind, a, b, c, d;
@@ -39,6 +39,9 @@ public final class OracleTest {
         String[] atHand;
         List<Integer> core;
         List<String[]> models;
+        /** The ways and for which letters and texts they were made: making them takes long. */
+        List<String[]> ways;
+        String waysOf = "";
 
         void changed() {
             atHand = null;
@@ -71,6 +74,15 @@ public final class OracleTest {
         }
 
         List<String[]> ways() {
+            String wanted = letters + " " + texts;
+            if (!wanted.equals(waysOf)) {
+                ways = makeWays();
+                waysOf = wanted;
+            }
+            return ways;
+        }
+
+        List<String[]> makeWays() {
             List<String[]> ways = new ArrayList<>();
             ways.add(new String[0]);
             for (int most : texts) {
