@@ -2,8 +2,9 @@ import java.util.Arrays;
 
 /**
  * Formulas over texts that are not known. The space of all ways to fill the texts is small, so each
- * formula keeps a column of bits, one for each way in the models' order: whether it is so there.
- * Every question about models is then asked of the columns.
+ * formula keeps bits, one for each way in the models' order: where it was judged, and where it is so.
+ * Every question about models is asked of these bits, and a formula is judged only where they are
+ * not known yet and no other formula has ruled the way out.
  */
 public final class TextSolver {
     public static final int NONE = -1, UNKNOWN = -2, OUTSIDE = -3, STATE = -4, ROOM = -5;
@@ -16,7 +17,7 @@ public final class TextSolver {
     private static final int LEAST_LONGER = -40, MOST_LONGER = 40;
     private static final int LEAST_DIVISOR = 2, MOST_DIVISOR = 16;
     private static final int SAME = 0, LONGER = 1, TAKEN = 2, BEFORE = 3, HAS = 4, SUM = 5, REPLACED = 6;
-    private static final int WORD = 32, MOST_WORDS = MOST_SPACE / WORD;
+    private static final int WORD = 64, MOST_WORDS = (MOST_SPACE + WORD - 1) / WORD;
 
     private final Space space = new Space();
     private final Way tried = new Way(space);
@@ -25,12 +26,9 @@ public final class TextSolver {
     private final Machine[] machines = new Machine[MOST_MACHINES];
     private final Formula[] formulas = new Formula[MOST_FORMULAS];
     private final Judge judge = new Judge(terms, machines);
-    private final int[][] columns = new int[MOST_FORMULAS][MOST_WORDS];
     private int termCount;
     private int machineCount;
     private int formulaCount;
-    /** Bit f: column f is up to date. */
-    private int judged;
     private boolean isModelAtHand;
     private boolean isCoreFound;
     /** Bit f: formula f is in the core that was found. */
@@ -57,7 +55,7 @@ public final class TextSolver {
         termCount = 0;
         machineCount = 0;
         formulaCount = 0;
-        judged = 0;
+        dropWays();
         dropFindings();
         return before;
     }
@@ -70,7 +68,7 @@ public final class TextSolver {
             return ROOM;
         }
         space.add(most);
-        judged = 0;
+        dropWays();
         dropFindings();
         return space.texts - 1;
     }
@@ -97,7 +95,7 @@ public final class TextSolver {
         }
         for (int f = 0; f < formulaCount; f++) {
             if (formulas[f].isAboutTerm(term)) {
-                judged &= ~(1 << f);
+                formulas[f].forget();
             }
         }
         dropFindings();
@@ -194,10 +192,9 @@ public final class TextSolver {
 
     public int models() {
         int members = countingFormulas();
-        judgeAll(members);
         int count = 0;
-        for (int word = 0; word < words(); word++) {
-            count += Integer.bitCount(modelsIn(word, members));
+        for (int word = 0; word < MOST_WORDS; word++) {
+            count += Long.bitCount(modelsIn(word, members));
         }
         return count;
     }
@@ -225,7 +222,6 @@ public final class TextSolver {
 
     public int core() {
         int members = countingFormulas();
-        judgeAll(members);
         if (hasModel(members)) {
             return STATE;
         }
@@ -342,22 +338,35 @@ public final class TextSolver {
     private void dropFindingsOfMachine(int machine) {
         for (int f = 0; f < formulaCount; f++) {
             if (formulas[f].isAboutMachine(machine)) {
-                judged &= ~(1 << f);
+                formulas[f].forget();
             }
         }
         dropFindings();
     }
 
+    /** The numbers of the ways have become other ones. */
+    private void dropWays() {
+        tried.restart();
+        atHand.restart();
+        for (int f = 0; f < formulaCount; f++) {
+            formulas[f].forget();
+        }
+    }
+
     private int takeInHand(int k) {
         int members = countingFormulas();
-        judgeAll(members);
-        int way = wayOfModel(k, members);
-        if (way == NONE) {
-            return 0;
+        int ahead = k;
+        for (int word = 0; word < MOST_WORDS && ahead >= 0; word++) {
+            long ways = modelsIn(word, members);
+            int count = Long.bitCount(ways);
+            if (ahead < count) {
+                atHand.goTo(word * WORD + placeOfBit(ways, ahead));
+                isModelAtHand = true;
+                return 1;
+            }
+            ahead -= count;
         }
-        atHand.goTo(way);
-        isModelAtHand = true;
-        return 1;
+        return 0;
     }
 
     /** Bit f: formula f is not left out. */
@@ -371,78 +380,65 @@ public final class TextSolver {
         return members;
     }
 
-    private void judgeAll(int members) {
-        for (int f = 0; f < formulaCount; f++) {
-            if (isIn(members, f) && !isIn(judged, f)) {
-                fillColumn(formulas[f], columns[f]);
-                judged |= 1 << f;
-            }
-        }
-    }
-
-    private void fillColumn(Formula formula, int[] column) {
-        Arrays.fill(column, 0);
-        tried.restart();
-        for (int way = 0; way < space.size && way / WORD < column.length; way++) {
-            if (judge.isSo(formula, tried)) {
-                column[way / WORD] |= 1 << way % WORD;
-            }
-            tried.goToNext();
-        }
-    }
-
-    private int words() {
-        return Math.min((space.size + WORD - 1) / WORD, MOST_WORDS);
-    }
-
-    /** The last word is not full: denying a formula must not make models behind the space's end. */
-    private int waysIn(int word) {
+    /** Behind the end of the space there are none, whatever is denied. */
+    private long waysIn(int word) {
         int left = space.size - word * WORD;
-        return left >= WORD ? -1 : (1 << left) - 1;
+        if (left <= 0) {
+            return 0L;
+        }
+        return left >= WORD ? -1L : (1L << left) - 1L;
     }
 
-    private int modelsIn(int word, int members) {
-        int ways = waysIn(word);
-        for (int f = 0; f < formulaCount && ways != 0; f++) {
+    private long modelsIn(int word, int members) {
+        long ways = waysIn(word);
+        long open = 0L;
+        for (int f = 0; f < formulaCount && ways != 0L; f++) {
             if (isIn(members, f)) {
-                ways &= formulas[f].isDenied ? ~columns[f][word] : columns[f][word];
+                ways &= ~formulas[f].ruledOut(word);
+                open |= formulas[f].notJudged(word);
+            }
+        }
+        open &= ways;
+        for (int i = 0; i < WORD && open >>> i != 0L; i++) {
+            if ((open >>> i & 1L) != 0L && !isModel(word * WORD + i, members)) {
+                ways &= ~(1L << i);
             }
         }
         return ways;
     }
 
+    private boolean isModel(int way, int members) {
+        for (int f = 0; f < formulaCount; f++) {
+            Formula formula = formulas[f];
+            if (isIn(members, f)) {
+                if (!formula.isJudged(way)) {
+                    tried.goTo(way);
+                    formula.keep(way, judge.isSo(formula, tried));
+                }
+                if (formula.isSoIn(way) == formula.isDenied) {
+                    return false;
+                }
+            }
+        }
+        return true;
+    }
+
     private boolean hasModel(int members) {
-        for (int word = 0; word < words(); word++) {
-            if (modelsIn(word, members) != 0) {
+        for (int word = 0; word < MOST_WORDS; word++) {
+            if (modelsIn(word, members) != 0L) {
                 return true;
             }
         }
         return false;
     }
 
-    private int wayOfModel(int k, int members) {
-        if (k < 0) {
-            return NONE;
-        }
-        int ahead = k;
-        for (int word = 0; word < words(); word++) {
-            int ways = modelsIn(word, members);
-            int count = Integer.bitCount(ways);
-            if (ahead < count) {
-                return word * WORD + placeOfBit(ways, ahead);
-            }
-            ahead -= count;
-        }
-        return NONE;
-    }
-
-    private static int placeOfBit(int bits, int ahead) {
-        int rest = bits;
+    private static int placeOfBit(long bits, int ahead) {
+        long rest = bits;
         for (int i = 0; i < ahead; i++) {
-            rest &= rest - 1;
+            rest &= rest - 1L;
         }
-        int lowest = rest & -rest;
-        return Integer.bitCount(lowest - 1);
+        long lowest = rest & -rest;
+        return Long.bitCount(lowest - 1L);
     }
 
     private boolean areLengthsFit() {
@@ -457,9 +453,9 @@ public final class TextSolver {
 
     private boolean isLengthFit(Formula formula) {
         if (formula.kind == LONGER) {
-            return judge.isLonger(formula, tried) != formula.isDenied;
+            return judge.isLonger(formula, tried.lengths) != formula.isDenied;
         }
-        return formula.kind != SAME || formula.isDenied || judge.isOneLength(formula, tried);
+        return formula.kind != SAME || formula.isDenied || judge.isOneLength(formula, tried.lengths);
     }
 
     /** The letters and the texts, and how many ways there are to fill these. */
@@ -515,8 +511,8 @@ public final class TextSolver {
     }
 
     /**
-     * One way to fill the texts. Their letters stand in one row, text 0's first, so that counting up
-     * the row as a number with as many digits goes through the ways of the same lengths in order.
+     * One way to fill the texts. Their letters stand in one row, text 0's first: the ways of the same
+     * lengths, in order, are the numbers from 0 on with the row as their digits.
      */
     private static final class Way {
         final Space space;
@@ -524,6 +520,9 @@ public final class TextSolver {
         final int[] starts = new int[MOST_TEXTS];
         final int[] row = new int[MOST_TEXTS * MOST_LENGTH];
         int total;
+        /** The first way of these lengths, and how many of them there are. */
+        int first;
+        int count = 1;
 
         Way(Space space) {
             this.space = space;
@@ -531,6 +530,7 @@ public final class TextSolver {
 
         void restart() {
             Arrays.fill(lengths, 0);
+            first = 0;
             layOut();
         }
 
@@ -540,24 +540,15 @@ public final class TextSolver {
                 starts[t] = total;
                 total += lengths[t];
             }
-            Arrays.fill(row, 0);
-        }
-
-        /** Behind the last way comes the first one again. */
-        void goToNext() {
-            int i = total - 1;
-            while (i >= 0 && row[i] >= space.letters - 1) {
-                row[i] = 0;
-                i--;
-            }
-            if (i >= 0) {
-                row[i]++;
-            } else {
-                goToNextLengths();
+            count = 1;
+            for (int i = 0; i < total; i++) {
+                count *= space.letters;
             }
         }
 
+        /** Behind the last lengths come the first ones again. */
         void goToNextLengths() {
+            first += count;
             int t = space.texts - 1;
             while (t >= 0 && lengths[t] >= space.mosts[t]) {
                 lengths[t] = 0;
@@ -565,30 +556,24 @@ public final class TextSolver {
             }
             if (t >= 0) {
                 lengths[t]++;
+            } else {
+                first = 0;
             }
             layOut();
         }
 
-        void goTo(int number) {
-            restart();
-            int left = number;
-            int all = space.lengthWays();
-            for (int n = 0; n < all && left >= rowsOfTheseLengths(); n++) {
-                left -= rowsOfTheseLengths();
+        void goTo(int way) {
+            if (way < first) {
+                restart();
+            }
+            for (int n = space.lengthWays(); n > 0 && way >= first + count; n--) {
                 goToNextLengths();
             }
+            int left = way - first;
             for (int i = total - 1; i >= 0 && space.letters > 0; i--) {
                 row[i] = left % space.letters;
                 left /= space.letters;
             }
-        }
-
-        private int rowsOfTheseLengths() {
-            int rows = 1;
-            for (int i = 0; i < total; i++) {
-                rows *= space.letters;
-            }
-            return rows;
         }
 
         int lengthOf(int text) {
@@ -618,10 +603,11 @@ public final class TextSolver {
             return true;
         }
 
-        int lengthIn(Way way) {
+        int lengthWith(int[] lengths) {
             int sum = 0;
             for (int i = 0; i < size; i++) {
-                sum += parts[i] < FIRST_TEXT ? 1 : way.lengthOf(parts[i] - FIRST_TEXT);
+                int text = parts[i] - FIRST_TEXT;
+                sum += text >= 0 && text < lengths.length ? lengths[text] : 1;
             }
             return sum;
         }
@@ -634,30 +620,27 @@ public final class TextSolver {
 
         void write(Term term, Way way) {
             size = 0;
-            if (term == null) {
-                return;
-            }
             for (int i = 0; i < term.size; i++) {
-                if (term.parts[i] < FIRST_TEXT) {
-                    add(term.parts[i]);
-                } else {
-                    addText(way, term.parts[i] - FIRST_TEXT);
+                int text = term.parts[i] - FIRST_TEXT;
+                if (text < 0) {
+                    addLetter(term.parts[i]);
+                } else if (text < way.lengths.length) {
+                    addRow(way.row, way.starts[text], way.lengths[text]);
                 }
             }
         }
 
-        private void add(int letter) {
+        private void addLetter(int letter) {
             if (size < letters.length) {
                 letters[size] = letter;
                 size++;
             }
         }
 
-        private void addText(Way way, int text) {
-            int length = way.lengthOf(text);
-            if (length > 0 && length <= letters.length - size) {
-                System.arraycopy(way.row, way.starts[text], letters, size, length);
-                size += length;
+        private void addRow(int[] row, int from, int count) {
+            for (int i = 0; i < count && size < letters.length && from + i < row.length; i++) {
+                letters[size] = row[from + i];
+                size++;
             }
         }
 
@@ -705,16 +688,13 @@ public final class TextSolver {
             return divisor > 0 && Math.floorMod(sum, divisor) == rest;
         }
 
-        boolean isReplaced(Row whole, Row old, Row put) {
-            int at = whole.placeOf(old);
-            if (at == NONE) {
-                return isSame(whole);
-            }
-            int behind = whole.size - at - old.size;
+        /** Whether this is the whole with what is put in place of so many letters at a place. */
+        boolean isReplaced(Row whole, int at, int gone, Row put) {
+            int behind = whole.size - at - gone;
             return size == at + put.size + behind
                 && agrees(0, whole, 0, at)
                 && agrees(at, put, 0, put.size)
-                && agrees(at + put.size, whole, at + old.size, behind);
+                && agrees(at + put.size, whole, at + gone, behind);
         }
     }
 
@@ -734,17 +714,13 @@ public final class TextSolver {
             return number >= 0 && number < states;
         }
 
-        private static int place(int state, int letter) {
-            return state * MOST_LETTERS + letter;
-        }
-
         int next(int state, int letter) {
-            int at = place(state, letter);
+            int at = state * MOST_LETTERS + letter;
             return at >= 0 && at < steps.length ? steps[at] : 0;
         }
 
         void lead(int state, int letter, int to) {
-            int at = place(state, letter);
+            int at = state * MOST_LETTERS + letter;
             if (at >= 0 && at < steps.length) {
                 steps[at] = to;
             }
@@ -794,6 +770,9 @@ public final class TextSolver {
     }
 
     private static final class Formula {
+        /** Bit w: whether it was judged in way w, and whether it is so there. */
+        final long[] judged = new long[MOST_WORDS];
+        final long[] so = new long[MOST_WORDS];
         int kind;
         int a;
         int b;
@@ -810,6 +789,44 @@ public final class TextSolver {
             d = newD;
             isDenied = false;
             isLeftOut = false;
+            forget();
+        }
+
+        void forget() {
+            Arrays.fill(judged, 0L);
+            Arrays.fill(so, 0L);
+        }
+
+        boolean isJudged(int way) {
+            return isBit(judged, way);
+        }
+
+        boolean isSoIn(int way) {
+            return isBit(so, way);
+        }
+
+        private static boolean isBit(long[] bits, int way) {
+            int word = way / WORD;
+            return word >= 0 && word < bits.length && (bits[word] >>> way % WORD & 1L) != 0L;
+        }
+
+        void keep(int way, boolean is) {
+            int word = way / WORD;
+            if (word >= 0 && word < MOST_WORDS) {
+                judged[word] |= 1L << way % WORD;
+                so[word] |= (is ? 1L : 0L) << way % WORD;
+            }
+        }
+
+        long ruledOut(int word) {
+            if (word < 0 || word >= MOST_WORDS) {
+                return 0L;
+            }
+            return judged[word] & (isDenied ? so[word] : ~so[word]);
+        }
+
+        long notJudged(int word) {
+            return word < 0 || word >= MOST_WORDS ? 0L : ~judged[word];
         }
 
         boolean hasSecondTerm() {
@@ -831,6 +848,8 @@ public final class TextSolver {
     private static final class Judge {
         final Term[] terms;
         final Machine[] machines;
+        /** In place of a term where there is NONE. */
+        final Term nothing = new Term();
         final Row a = new Row();
         final Row b = new Row();
         final Row c = new Row();
@@ -841,34 +860,29 @@ public final class TextSolver {
             this.machines = machines;
         }
 
-        /** NONE is no term: it is null, and as long as nothing. */
         private Term termAt(int number) {
-            return number >= 0 && number < terms.length ? terms[number] : null;
+            return number >= 0 && number < terms.length ? terms[number] : nothing;
         }
 
-        private int lengthOf(int number, Way way) {
-            Term term = termAt(number);
-            return term == null ? 0 : term.lengthIn(way);
+        private Machine machineAt(int number) {
+            return number >= 0 && number < machines.length ? machines[number] : null;
         }
 
-        boolean isLonger(Formula formula, Way way) {
-            return lengthOf(formula.a, way) - lengthOf(formula.b, way) >= formula.c;
+        boolean isLonger(Formula formula, int[] lengths) {
+            int longer = termAt(formula.a).lengthWith(lengths) - termAt(formula.b).lengthWith(lengths);
+            return longer >= formula.c;
         }
 
-        boolean isOneLength(Formula formula, Way way) {
-            return lengthOf(formula.a, way) == lengthOf(formula.b, way);
-        }
-
-        private boolean isTakenBy(int number) {
-            return number >= 0 && number < machines.length && machines[number].takes(a);
+        boolean isOneLength(Formula formula, int[] lengths) {
+            return termAt(formula.a).lengthWith(lengths) == termAt(formula.b).lengthWith(lengths);
         }
 
         boolean isSo(Formula formula, Way way) {
             // Lengths alone settle these two, and need no letters to be put together.
             if (formula.kind == LONGER) {
-                return isLonger(formula, way);
+                return isLonger(formula, way.lengths);
             }
-            if (formula.kind == SAME && !isOneLength(formula, way)) {
+            if (formula.kind == SAME && !isOneLength(formula, way.lengths)) {
                 return false;
             }
             a.write(termAt(formula.a), way);
@@ -879,7 +893,8 @@ public final class TextSolver {
                 case SAME:
                     return a.isSame(b);
                 case TAKEN:
-                    return isTakenBy(formula.b);
+                    Machine machine = machineAt(formula.b);
+                    return machine != null && machine.takes(a);
                 case BEFORE:
                     return a.isBefore(b);
                 case HAS:
@@ -889,7 +904,8 @@ public final class TextSolver {
                 case REPLACED:
                     c.write(termAt(formula.c), way);
                     d.write(termAt(formula.d), way);
-                    return a.isReplaced(b, c, d);
+                    int at = b.placeOf(c);
+                    return at == NONE ? a.isSame(b) : a.isReplaced(b, at, c.size, d);
                 default:
                     return false;
             }

@@ -98,6 +98,17 @@ public final class PromiseTest {
         due("2 not denied", x.deny(0, false), 0);
         due("2 not left out", x.leave(0, false), 0);
         due("2 models", x.models(), 3);
+        x.clear(2);
+        termOf(x, "0");
+        x.formula(LONGER, 0, NONE, 2, 0);
+        due("2 the new formula is not the old one", x.models(), 0);
+        x.clear(2);
+        x.text(2);
+        x.model(4);
+        x.clear(3);
+        x.text(2);
+        due("2 another model 5", x.model(5), 1);
+        dueRow("2 another model 5", x, 0, "01");
     }
 
     private static void texts() {
@@ -141,6 +152,18 @@ public final class PromiseTest {
         x.text(2);
         due("3 8788 is too much", x.text(1), ROOM);
         due("3 2197", x.told(5), 2197);
+
+        x.clear(2);
+        x.text(1);
+        termOf(x, "x");
+        x.formula(LONGER, 0, NONE, 1, 0);
+        due("3 models of one text", x.models(), 2);
+        x.model(0);
+        x.text(1);
+        due("3 models of two texts", x.models(), 6);
+        due("3 the last one", x.model(5), 1);
+        dueRow("3 the last one", x, 0, "1");
+        dueRow("3 the last one", x, 1, "1");
     }
 
     private static void terms() {
@@ -429,6 +452,26 @@ public final class PromiseTest {
         dueSo(2, REPLACED, 1, "0111", "111", "11", "011");
         dueSo(2, REPLACED, 1, "01", "111", "11", "0");
         dueSo(2, REPLACED, 0, "10", "111", "11", "0");
+    }
+
+    private static void longestTerms() {
+        TextSolver x = new TextSolver();
+        x.text(5);
+        x.text(5);
+        termOf(x, "xxxxxx");
+        termOf(x, "xxxxxy");
+        x.formula(SAME, 0, 1, 0, 0);
+        due("9 SAME of 30 letters: y is x", x.models(), 63);
+        x.leave(0, true);
+        x.formula(LONGER, 0, NONE, 30, 0);
+        due("9 LONGER of 30 letters", x.models(), 32 * 63);
+        x.formula(BEFORE, 0, 1, 0, 0);
+        x.formula(LONGER, 1, 0, 0, 0);
+        due("9 BEFORE of 30 letters: x is before y", x.models(), 31 * 32 / 2);
+        x.formula(REPLACED, 1, 0, termOf(x, "x"), termOf(x, "y"));
+        due("9 REPLACED of 30 letters: the first x goes, not the last", x.models(), 0);
+        x.deny(4, true);
+        due("9 REPLACED of 30 letters, denied", x.models(), 31 * 32 / 2);
     }
 
     private static void longSums() {
@@ -829,6 +872,11 @@ public final class PromiseTest {
         due("21 each its own letter", x.meet(0, 1), NONE);
         x.step(1, 0, 2, 1);
         due("21 the third letter", x.meet(0, 1), 1);
+        x.clear(2);
+        x.machine(2);
+        x.step(0, 0, 0, 1);
+        x.good(0, 1, true);
+        due("21 the first letter", x.meet(0, 0), 1);
     }
 
     private static void ring(TextSolver x, int states, int good) {
@@ -873,6 +921,7 @@ public final class PromiseTest {
         formulaRefusals();
         formulaNumbers();
         formulaMeanings();
+        longestTerms();
         longSums();
         taken();
         denials();
