@@ -10,7 +10,7 @@ import java.util.Random;
  */
 public final class OracleTest {
     private static final int NONE = -1, UNKNOWN = -2, OUTSIDE = -3, STATE = -4, ROOM = -5;
-    private static final int RUNS = 400, MOST_CALLS = 512, MOST_TOLD = 20;
+    private static final int RUNS = 1000, MOST_CALLS = 512, MOST_TOLD = 20;
 
     private static final class Formula {
         int kind, a, b, c, d;
@@ -559,11 +559,23 @@ public final class OracleTest {
                 due("leave(" + f + ", " + is + ")", solver.leave(f, is), oracle.leave(f, is));
                 break;
             default:
-                if (random.nextInt(12) == 0) {
+                if (random.nextInt(4) == 0) {
                     int letters = 1 + random.nextInt(4);
                     due("clear(" + letters + ")", solver.clear(letters), oracle.clear(letters));
                 }
         }
+    }
+
+    /** Most random formulas have no model together: leave some out, so that models are seen too. */
+    private void makeRoomForModels() {
+        for (int f = 0; f < oracle.formulas.size() && oracle.allModels().isEmpty() && calls.size() < MOST_CALLS - 3; f++) {
+            if (!oracle.formulas.get(f).left && random.nextBoolean()) {
+                boolean isLeft = random.nextBoolean();
+                due("leave(" + f + ", " + isLeft + ")", solver.leave(f, isLeft), oracle.leave(f, isLeft));
+                due("deny(" + f + ", " + !isLeft + ")", solver.deny(f, !isLeft), oracle.deny(f, !isLeft));
+            }
+        }
+        due("solve()", solver.solve(), oracle.model(0));
     }
 
     private void ask() {
@@ -611,9 +623,11 @@ public final class OracleTest {
     }
 
     private void run(int changes) {
-        while (calls.size() < MOST_CALLS && !isWrong) {
-            if (calls.size() < changes || random.nextInt(4) == 0) {
+        while (calls.size() < MOST_CALLS - 1 && !isWrong) {
+            if (calls.size() < changes || random.nextInt(8) == 0) {
                 change();
+            } else if (random.nextInt(10) == 0) {
+                makeRoomForModels();
             } else {
                 ask();
             }
