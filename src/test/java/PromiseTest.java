@@ -152,6 +152,10 @@ public final class PromiseTest {
         x.text(2);
         due("3 8788 is too much", x.text(1), ROOM);
         due("3 2197", x.told(5), 2197);
+        // 7744 and 8320 are the nearest to 8000 that three letters allow, 6975 and 8505 for two.
+        dueSpace(3, 7744, 3, 4, 1, 1, 1);
+        dueSpace(3, 40 * 13 * 4, ROOM, 3, 2, 1, 1);
+        dueSpace(2, 63 * 15 * 3, ROOM, 5, 3, 1, 1);
 
         x.clear(2);
         x.text(1);
@@ -164,6 +168,17 @@ public final class PromiseTest {
         due("3 the last one", x.model(5), 1);
         dueRow("3 the last one", x, 0, "1");
         dueRow("3 the last one", x, 1, "1");
+    }
+
+    private static void dueSpace(int letters, int space, int last, int... mosts) {
+        TextSolver x = withLetters(letters);
+        for (int i = 0; i < mosts.length; i++) {
+            due("3 text(" + mosts[i] + ") near 8000", x.text(mosts[i]), i < mosts.length - 1 ? i : last);
+        }
+        due("3 space near 8000", x.told(5), space);
+        due("3 models near 8000", x.models(), space);
+        due("3 the last model near 8000", x.model(space - 1), 1);
+        due("3 none behind it", x.model(space), 0);
     }
 
     private static void terms() {
