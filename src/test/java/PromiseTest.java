@@ -1,57 +1,5 @@
 /** Each promise of the document in ordinary calls, at its edges, and in calls that it refuses. */
-public final class PromiseTest {
-    private static final int NONE = -1, UNKNOWN = -2, OUTSIDE = -3, STATE = -4, ROOM = -5;
-    private static final int SAME = 0, LONGER = 1, TAKEN = 2, BEFORE = 3, HAS = 4, SUM = 5, REPLACED = 6;
-    private static final int LEAST = Integer.MIN_VALUE, GREATEST = Integer.MAX_VALUE;
-
-    private static int wrong;
-    private static int checked;
-
-    private static void due(String what, int got, int want) {
-        checked++;
-        if (got != want) {
-            wrong++;
-            System.out.println(what + " answered " + got + ", due is " + want);
-        }
-    }
-
-    private static void dueTold(String what, TextSolver x, int... want) {
-        for (int i = 0; i < want.length; i++) {
-            due(what + ": told(" + i + ")", x.told(i), want[i]);
-        }
-    }
-
-    private static TextSolver withLetters(int letters) {
-        TextSolver x = new TextSolver();
-        x.clear(letters);
-        return x;
-    }
-
-    /** A term from digits (letters) and x, y, z, w (texts 0 to 3). */
-    private static int termOf(TextSolver x, String parts) {
-        int term = x.term();
-        for (char part : parts.toCharArray()) {
-            x.part(term, part <= '9' ? part - '0' : 8 + "xyzw".indexOf(part));
-        }
-        return term;
-    }
-
-    private static String rowOf(TextSolver x, int text) {
-        StringBuilder row = new StringBuilder();
-        for (int i = 0; i < x.length(text); i++) {
-            row.append(x.letter(text, i));
-        }
-        return row.toString();
-    }
-
-    private static void dueRow(String what, TextSolver x, int text, String want) {
-        checked++;
-        if (!rowOf(x, text).equals(want)) {
-            wrong++;
-            System.out.println(what + ": text " + text + " is " + rowOf(x, text) + ", due is " + want);
-        }
-    }
-
+public final class PromiseTest extends Check {
     private static void newObject() {
         dueTold("1 new", new TextSolver(), 2, 0, 0, 0, 0, 1, 0);
         TextSolver x = new TextSolver();
@@ -60,8 +8,6 @@ public final class PromiseTest {
         due("1 no formula", x.deny(0, true), UNKNOWN);
         due("1 no text", x.letter(0, 0), UNKNOWN);
         due("1 models", x.models(), 1);
-        due("1 constants", TextSolver.NONE * 10000 + TextSolver.UNKNOWN * 1000 + TextSolver.OUTSIDE * 100
-            + TextSolver.STATE * 10 + TextSolver.ROOM, -12345);
         TextSolver other = new TextSolver();
         x.text(2);
         due("1 objects are apart", other.told(1), 0);
@@ -394,79 +340,63 @@ public final class PromiseTest {
         due("9 refused: there is still a core", x.inCore(9), 0);
     }
 
-    /** Whether a formula over terms of letters alone is so; denied it must be the other way round. */
-    private static void dueSo(int letters, int kind, int want, Object... about) {
-        TextSolver x = withLetters(letters);
-        int[] numbers = new int[4];
-        StringBuilder what = new StringBuilder("9 kind " + kind + " of");
-        for (int i = 0; i < about.length; i++) {
-            numbers[i] = about[i] instanceof Integer n ? n : termOf(x, (String) about[i]);
-            what.append(" '").append(about[i]).append("'");
-        }
-        x.formula(kind, numbers[0], numbers[1], numbers[2], numbers[3]);
-        due(what.toString(), x.models(), want);
-        due(what + " solve", x.solve(), want);
-        x.deny(0, true);
-        due(what + " denied", x.models(), 1 - want);
-    }
-
     private static void formulaMeanings() {
-        dueSo(2, SAME, 1, "", "");
-        dueSo(2, SAME, 1, "0110", "0110");
-        dueSo(2, SAME, 0, "0110", "0111");
-        dueSo(2, SAME, 0, "01", "011");
-        dueSo(2, SAME, 0, "", "0");
-        dueSo(2, LONGER, 1, "01", "1", 1);
-        dueSo(2, LONGER, 0, "01", "1", 2);
-        dueSo(2, LONGER, 1, "01", "11", 0);
-        dueSo(2, LONGER, 1, "", "111", -3);
-        dueSo(2, LONGER, 0, "", "111", -2);
-        dueSo(2, LONGER, 1, "010", NONE, 3);
-        dueSo(2, LONGER, 0, "010", NONE, 4);
-        dueSo(2, LONGER, 0, "111111", "", 40);
-        dueSo(2, LONGER, 1, "", "111111", -40);
-        dueSo(2, BEFORE, 1, "", "0");
-        dueSo(2, BEFORE, 0, "", "");
-        dueSo(2, BEFORE, 0, "0", "");
-        dueSo(2, BEFORE, 1, "01", "1");
-        dueSo(2, BEFORE, 0, "1", "01");
-        dueSo(2, BEFORE, 0, "01", "01");
-        dueSo(2, BEFORE, 1, "01", "010");
-        dueSo(2, BEFORE, 0, "010", "01");
-        dueSo(3, BEFORE, 1, "0122", "02");
-        dueSo(2, HAS, 1, "0110", "11");
-        dueSo(2, HAS, 1, "0110", "10");
-        dueSo(2, HAS, 1, "0110", "01");
-        dueSo(2, HAS, 0, "0110", "111");
-        dueSo(2, HAS, 0, "0110", "00");
-        dueSo(2, HAS, 1, "0110", "");
-        dueSo(2, HAS, 1, "", "");
-        dueSo(2, HAS, 0, "", "1");
-        dueSo(2, HAS, 0, "11", "111");
-        dueSo(2, HAS, 1, "00101", "0101");
-        dueSo(2, SUM, 1, "", 16, 0);
-        dueSo(2, SUM, 0, "", 16, 1);
-        dueSo(2, SUM, 1, "0", 2, 1);
-        dueSo(2, SUM, 1, "00", 7, 4);
-        dueSo(2, SUM, 0, "00", 7, 3);
-        dueSo(2, SUM, 1, "00", 16, 0);
-        dueSo(3, SUM, 1, "222222", 13, 5);
-        dueSo(2, REPLACED, 1, "00", "00", "1", "01");
-        dueSo(2, REPLACED, 0, "0", "00", "1", "0");
-        dueSo(2, REPLACED, 1, "00110", "0110", "1", "01");
-        dueSo(2, REPLACED, 1, "01010", "0110", "1", "10");
-        dueSo(2, REPLACED, 0, "01100", "0110", "1", "10");
-        dueSo(2, REPLACED, 1, "01010", "0110", "11", "101");
-        dueSo(2, REPLACED, 1, "1001", "001", "", "1");
-        dueSo(2, REPLACED, 0, "0011", "001", "", "1");
-        dueSo(2, REPLACED, 1, "1", "", "", "1");
-        dueSo(2, REPLACED, 1, "", "", "1", "0");
-        dueSo(2, REPLACED, 1, "00", "0110", "11", "");
-        dueSo(2, REPLACED, 1, "", "01", "01", "");
-        dueSo(2, REPLACED, 0, "01", "01", "01", "");
-        dueSo(2, REPLACED, 1, "0111", "111", "11", "011");
-        dueSo(2, REPLACED, 1, "01", "111", "11", "0");
-        dueSo(2, REPLACED, 0, "10", "111", "11", "0");
+        dueSo(2, SAME, true, "", "");
+        dueSo(2, SAME, true, "0110", "0110");
+        dueSo(2, SAME, false, "0110", "0111");
+        dueSo(2, SAME, false, "01", "011");
+        dueSo(2, SAME, false, "", "0");
+        dueSo(2, LONGER, true, "01", "1", 1);
+        dueSo(2, LONGER, false, "01", "1", 2);
+        dueSo(2, LONGER, true, "01", "11", 0);
+        dueSo(2, LONGER, true, "", "111", -3);
+        dueSo(2, LONGER, false, "", "111", -2);
+        dueSo(2, LONGER, true, "010", NONE, 3);
+        dueSo(2, LONGER, false, "010", NONE, 4);
+        dueSo(2, LONGER, false, "111111", "", 40);
+        dueSo(2, LONGER, true, "", "111111", -40);
+        dueSo(2, BEFORE, true, "", "0");
+        dueSo(2, BEFORE, false, "", "");
+        dueSo(2, BEFORE, false, "0", "");
+        dueSo(2, BEFORE, true, "01", "1");
+        dueSo(2, BEFORE, false, "1", "01");
+        dueSo(2, BEFORE, false, "01", "01");
+        dueSo(2, BEFORE, true, "01", "010");
+        dueSo(2, BEFORE, false, "010", "01");
+        dueSo(3, BEFORE, true, "0122", "02");
+        dueSo(2, HAS, true, "0110", "11");
+        dueSo(2, HAS, true, "0110", "10");
+        dueSo(2, HAS, true, "0110", "01");
+        dueSo(2, HAS, false, "0110", "111");
+        dueSo(2, HAS, false, "0110", "00");
+        dueSo(2, HAS, true, "0110", "");
+        dueSo(2, HAS, true, "", "");
+        dueSo(2, HAS, false, "", "1");
+        dueSo(2, HAS, false, "11", "111");
+        dueSo(2, HAS, true, "00101", "0101");
+        dueSo(2, SUM, true, "", 16, 0);
+        dueSo(2, SUM, false, "", 16, 1);
+        dueSo(2, SUM, true, "0", 2, 1);
+        dueSo(2, SUM, true, "00", 7, 4);
+        dueSo(2, SUM, false, "00", 7, 3);
+        dueSo(2, SUM, true, "00", 16, 0);
+        dueSo(3, SUM, true, "222222", 13, 5);
+        dueSo(2, REPLACED, true, "00", "00", "1", "01");
+        dueSo(2, REPLACED, false, "0", "00", "1", "0");
+        dueSo(2, REPLACED, true, "00110", "0110", "1", "01");
+        dueSo(2, REPLACED, true, "01010", "0110", "1", "10");
+        dueSo(2, REPLACED, false, "01100", "0110", "1", "10");
+        dueSo(2, REPLACED, true, "01010", "0110", "11", "101");
+        dueSo(2, REPLACED, true, "1001", "001", "", "1");
+        dueSo(2, REPLACED, false, "0011", "001", "", "1");
+        dueSo(2, REPLACED, true, "1", "", "", "1");
+        dueSo(2, REPLACED, true, "", "", "1", "0");
+        dueSo(2, REPLACED, true, "00", "0110", "11", "");
+        dueSo(2, REPLACED, true, "", "01", "01", "");
+        dueSo(2, REPLACED, false, "01", "01", "01", "");
+        dueSo(2, REPLACED, true, "0111", "111", "11", "011");
+        dueSo(2, REPLACED, true, "01", "111", "11", "0");
+        dueSo(2, REPLACED, false, "10", "111", "11", "0");
     }
 
     private static void longestTerms() {
@@ -584,17 +514,6 @@ public final class PromiseTest {
         due("12 none", x.solve(), 0);
         due("12 none at hand", x.told(6), 0);
         due("12 none at hand", x.length(0), STATE);
-    }
-
-    private static void dueModels(String what, TextSolver x, String[] rows) {
-        due(what + " models", x.models(), rows.length);
-        for (int k = 0; k < rows.length; k++) {
-            due(what + " model(" + k + ")", x.model(k), 1);
-            String[] each = rows[k].split(",", -1);
-            for (int t = 0; t < each.length; t++) {
-                dueRow(what + " model " + k, x, t, each[t]);
-            }
-        }
     }
 
     private static void modelOrder() {
@@ -755,12 +674,6 @@ public final class PromiseTest {
         dueCore("19 one would do, the first stays", x, 1, 0);
     }
 
-    private static void dueCore(String what, TextSolver x, int... want) {
-        for (int f = 0; f < want.length; f++) {
-            due(what + ": inCore(" + f + ")", x.inCore(f), want[f]);
-        }
-    }
-
     /** Each call from clear to leave, not refused, leaves no model at hand and no core. */
     private static void findingsGo() {
         for (int call = 0; call < 10; call++) {
@@ -856,8 +769,8 @@ public final class PromiseTest {
         TextSolver x = new TextSolver();
         due("21 no machine", x.meet(0, 0), UNKNOWN);
         // Machine 0 takes rows of 5 letters and 6 more, each time; machine 1 those of 4 and 5 more.
-        ring(x, 6, 5);
-        ring(x, 5, 4);
+        ringOf(x, 6, 5);
+        ringOf(x, 5, 4);
         due("21 alone", x.meet(0, 0), 5);
         due("21 rings of 6 and 5", x.meet(0, 1), 29);
         due("21 the other way round", x.meet(1, 0), 29);
@@ -873,8 +786,8 @@ public final class PromiseTest {
         due("21 nothing is taken", x.meet(2, 2), 0);
 
         x.clear(2);
-        ring(x, 6, 1);
-        ring(x, 4, 2);
+        ringOf(x, 6, 1);
+        ringOf(x, 4, 2);
         due("21 odd and even lengths", x.meet(0, 1), NONE);
 
         x.clear(3);
@@ -892,16 +805,6 @@ public final class PromiseTest {
         x.step(0, 0, 0, 1);
         x.good(0, 1, true);
         due("21 the first letter", x.meet(0, 0), 1);
-    }
-
-    private static void ring(TextSolver x, int states, int good) {
-        int machine = x.machine(states);
-        for (int state = 0; state < states; state++) {
-            for (int letter = 0; letter < x.told(0); letter++) {
-                x.step(machine, state, letter, (state + 1) % states);
-            }
-        }
-        x.good(machine, good, true);
     }
 
     private static void told() {
@@ -925,36 +828,33 @@ public final class PromiseTest {
     }
 
     public static void main(String[] args) {
-        newObject();
-        clearCalls();
-        texts();
-        terms();
-        parts();
-        machines();
-        steps();
-        goods();
-        formulaRefusals();
-        formulaNumbers();
-        formulaMeanings();
-        longestTerms();
-        longSums();
-        taken();
-        denials();
-        leavings();
-        solving();
-        modelOrder();
-        modelsAtTheEnd();
-        reading();
-        holding();
-        cores();
-        findingsGo();
-        findingsStay();
-        spans();
-        meetings();
-        told();
-        System.out.println(wrong == 0 ? "all " + checked + " answers are as due" : wrong + " answers are not as due");
-        if (wrong != 0) {
-            System.exit(1);
-        }
+        test("1 a new object", PromiseTest::newObject);
+        test("2 clear", PromiseTest::clearCalls);
+        test("3 text", PromiseTest::texts);
+        test("4 term", PromiseTest::terms);
+        test("5 part", PromiseTest::parts);
+        test("6 machine", PromiseTest::machines);
+        test("7 step", PromiseTest::steps);
+        test("8 good", PromiseTest::goods);
+        test("9 formula: refusals", PromiseTest::formulaRefusals);
+        test("9 formula: numbers", PromiseTest::formulaNumbers);
+        test("9 formula: meanings", PromiseTest::formulaMeanings);
+        test("9 formula: the longest terms", PromiseTest::longestTerms);
+        test("9 formula: long sums", PromiseTest::longSums);
+        test("9 formula: TAKEN", PromiseTest::taken);
+        test("10 deny", PromiseTest::denials);
+        test("11 leave", PromiseTest::leavings);
+        test("12 solve", PromiseTest::solving);
+        test("13 model", PromiseTest::modelOrder);
+        test("14 models", PromiseTest::modelsAtTheEnd);
+        test("15, 16 length and letter", PromiseTest::reading);
+        test("17 holds", PromiseTest::holding);
+        test("18, 19 core and inCore", PromiseTest::cores);
+        test("terms: changes", PromiseTest::findingsGo);
+        test("terms: questions", PromiseTest::findingsStay);
+        test("20 spans", PromiseTest::spans);
+        test("21 meet", PromiseTest::meetings);
+        test("22 told", PromiseTest::told);
+        end();
     }
 }
