@@ -14,12 +14,6 @@ abstract class Check {
     private static final int MOST_TOLD = 5;
     private static final Map<Sample, List<String>> UNTOUCHED = new EnumMap<>(Sample.class);
 
-    static {
-        for (Sample sample : Sample.values()) {
-            UNTOUCHED.put(sample, everything(sample.make()));
-        }
-    }
-
     private static String test = "";
     private static int toldOfTest;
     private static int tests;
@@ -31,7 +25,11 @@ abstract class Check {
         tests++;
         toldOfTest = 0;
         int before = answers;
-        body.run();
+        try {
+            body.run();
+        } catch (RuntimeException thrown) {
+            tell("ended by " + thrown);
+        }
         if (answers == before) {
             tell("asks nothing");
         }
@@ -76,6 +74,9 @@ abstract class Check {
     static void dueSo(int letters, int kind, boolean want, Object... about) {
         TextSolver x = withLetters(letters);
         x.text(0);
+        // Longer rows ahead of it must leave nothing behind.
+        int longer = termOf(x, String.valueOf(letters - 1).repeat(6));
+        x.formula(REPLACED, longer, longer, longer, longer);
         int[] numbers = new int[4];
         StringBuilder what = new StringBuilder("kind " + kind + " of");
         for (int i = 0; i < about.length; i++) {
@@ -85,11 +86,11 @@ abstract class Check {
         x.formula(kind, numbers[0], numbers[1], numbers[2], numbers[3]);
         due(what + ": models()", x.models(), want ? 1 : 0);
         due(what + ": solve()", x.solve(), want ? 1 : 0);
-        x.deny(0, true);
+        x.deny(1, true);
         due(what + " denied: models()", x.models(), want ? 0 : 1);
-        x.leave(0, true);
+        x.leave(1, true);
         x.solve();
-        due(what + ": holds(0)", x.holds(0), want ? 1 : 0);
+        due(what + ": holds(1)", x.holds(1), want ? 1 : 0);
     }
 
     /** The models in their order, each told as its texts' rows with commas between. */
@@ -110,8 +111,12 @@ abstract class Check {
         for (Sample sample : samples) {
             TextSolver x = sample.make();
             due(what + " on " + sample, call.applyAsInt(x), want);
-            dueEverything(what + " on " + sample, everything(x), UNTOUCHED.get(sample));
+            dueEverything(what + " on " + sample, everything(x), untouched(sample));
         }
+    }
+
+    private static List<String> untouched(Sample sample) {
+        return UNTOUCHED.computeIfAbsent(sample, s -> everything(s.make()));
     }
 
     interface Call {

@@ -5,9 +5,9 @@ enum Sample {
     static final Sample[] ALL = {NEW, MODEL, CORE, FULL_MODEL, FULL_CORE};
     static final Sample[] FILLED = {MODEL, CORE, FULL_MODEL, FULL_CORE};
     static final Sample[] FULL = {FULL_MODEL, FULL_CORE};
-    static final Sample[] WITH_MODEL = {MODEL, FULL_MODEL};
-    static final Sample[] WITHOUT_MODEL = {NEW, CORE, FULL_CORE};
-    static final Sample[] WITHOUT_CORE = {MODEL, FULL_MODEL};
+    static final Sample[] SMALL = {MODEL, CORE};
+    static final Sample[] WITH_MODEL = {MODEL, FULL_MODEL, WIDE};
+    static final Sample[] WITH_CORE = {CORE, FULL_CORE};
 
     TextSolver make() {
         switch (this) {

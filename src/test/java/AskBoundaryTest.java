@@ -1,8 +1,6 @@
 /** Promises 12 to 22: for each boundary that a sentence names, a test of its own. */
 public final class AskBoundaryTest extends Check {
     private static final int TEXTS = 1, MACHINES = 3, FORMULAS = 4;
-    private static final Sample[] WITH_MODEL = {Sample.MODEL, Sample.FULL_MODEL, Sample.WIDE};
-    private static final Sample[] WITH_CORE = {Sample.CORE, Sample.FULL_CORE};
 
     /** Two letters, one text x of five letters at most, and the term x. */
     private static TextSolver oneText() {
@@ -67,7 +65,7 @@ public final class AskBoundaryTest extends Check {
             due("solve()", x.solve(), 0);
             due("told(6)", x.told(6), 0);
             due("length(0)", x.length(0), STATE);
-            refused("solve()", 0, WITH_CORE, TextSolver::solve);
+            refused("solve()", 0, Sample.WITH_CORE, TextSolver::solve);
         });
     }
 
@@ -92,13 +90,13 @@ public final class AskBoundaryTest extends Check {
             dueRow("model(0)", x, 3, "");
         });
         test("13 there is no such one: what is at hand stays", () -> {
-            for (Sample sample : WITH_MODEL) {
+            for (Sample sample : Sample.WITH_MODEL) {
                 int models = sample.make().models();
                 refusedOutside("model", 0, new Sample[] {sample}, 0, models - 1, (x, k) -> x.model(k));
             }
         });
         test("13 there is none at all: none comes to hand", () ->
-            refusedOutside("model", 0, WITH_CORE, 0, -1, (x, k) -> x.model(k)));
+            refusedOutside("model", 0, Sample.WITH_CORE, 0, -1, (x, k) -> x.model(k)));
         test("13 there is no such one, and none was at hand", () -> {
             TextSolver x = oneText();
             for (int k : outside(0, 62)) {
@@ -167,7 +165,7 @@ public final class AskBoundaryTest extends Check {
         });
         test("14 what is at hand stays", () -> {
             refused("models()", Sample.MODEL.make().models(), new Sample[] {Sample.MODEL}, TextSolver::models);
-            refused("models()", 0, WITH_CORE, TextSolver::models);
+            refused("models()", 0, Sample.WITH_CORE, TextSolver::models);
         });
     }
 
@@ -175,8 +173,8 @@ public final class AskBoundaryTest extends Check {
         test("15 UNKNOWN, also ahead of STATE", () ->
             refusedUnknown("length", Sample.ALL, TEXTS, (x, n) -> x.length(n)));
         test("15 STATE: none is at hand", () -> {
-            refused("length(0)", STATE, WITH_CORE, x -> x.length(0));
-            refused("length(1)", STATE, WITH_CORE, x -> x.length(1));
+            refused("length(0)", STATE, Sample.WITH_CORE, x -> x.length(0));
+            refused("length(1)", STATE, Sample.WITH_CORE, x -> x.length(1));
             due("length(0), not solved yet", oneText().length(0), STATE);
         });
         test("15 from 0 to MOST", () -> {
@@ -208,7 +206,7 @@ public final class AskBoundaryTest extends Check {
         });
         test("16 STATE: none is at hand, also where there is no such letter", () -> {
             for (int i : new int[] {LEAST, -1, 0, 5, GREATEST}) {
-                refused("letter(0, " + i + ")", STATE, WITH_CORE, x -> x.letter(0, i));
+                refused("letter(0, " + i + ")", STATE, Sample.WITH_CORE, x -> x.letter(0, i));
             }
             due("letter(0, 0), not solved yet", oneText().letter(0, 0), STATE);
         });
@@ -251,8 +249,8 @@ public final class AskBoundaryTest extends Check {
         test("17 UNKNOWN, also ahead of STATE", () ->
             refusedUnknown("holds", Sample.ALL, FORMULAS, (x, n) -> x.holds(n)));
         test("17 STATE: none is at hand", () -> {
-            refused("holds(0)", STATE, WITH_CORE, x -> x.holds(0));
-            refused("holds(4)", STATE, WITH_CORE, x -> x.holds(4));
+            refused("holds(0)", STATE, Sample.WITH_CORE, x -> x.holds(0));
+            refused("holds(4)", STATE, Sample.WITH_CORE, x -> x.holds(4));
             TextSolver x = oneText();
             x.formula(SAME, 0, 0, 0, 0);
             due("holds(0), not solved yet", x.holds(0), STATE);
@@ -290,7 +288,7 @@ public final class AskBoundaryTest extends Check {
 
     private static void cores() {
         test("18 STATE: there is a MODEL, at hand or not", () -> {
-            refused("core()", STATE, WITH_MODEL, TextSolver::core);
+            refused("core()", STATE, Sample.WITH_MODEL, TextSolver::core);
             refused("core()", STATE, new Sample[] {Sample.NEW}, TextSolver::core);
             due("core(), not solved yet", oneText().core(), STATE);
         });
@@ -363,7 +361,7 @@ public final class AskBoundaryTest extends Check {
         test("19 UNKNOWN, also ahead of STATE", () ->
             refusedUnknown("inCore", Sample.ALL, FORMULAS, (x, n) -> x.inCore(n)));
         test("19 STATE: there is a MODEL", () ->
-            refused("inCore(0)", STATE, WITH_MODEL, x -> x.inCore(0)));
+            refused("inCore(0)", STATE, Sample.WITH_MODEL, x -> x.inCore(0)));
         test("19 STATE: there is no MODEL, but no CORE was found", () -> {
             TextSolver x = withoutModel();
             due("inCore(0)", x.inCore(0), STATE);
@@ -388,8 +386,8 @@ public final class AskBoundaryTest extends Check {
             dueCore("the tenth alone", x, 0, 0, 0, 0, 0, 0, 0, 0, 0, 1);
         });
         test("19 inCore changes nothing", () -> {
-            refused("inCore(0)", 1, WITH_CORE, x -> x.inCore(0));
-            refused("inCore(3)", 0, WITH_CORE, x -> x.inCore(3));
+            refused("inCore(0)", 1, Sample.WITH_CORE, x -> x.inCore(0));
+            refused("inCore(3)", 0, Sample.WITH_CORE, x -> x.inCore(3));
         });
     }
 
@@ -486,9 +484,19 @@ public final class AskBoundaryTest extends Check {
             x.formula(LONGER, 1, NONE, 31, 0);
             due("spans() of 31 letters", x.spans(), 0);
         });
+        test("20 spans between two counts of MODELS", () -> {
+            TextSolver x = new TextSolver();
+            x.text(2);
+            termOf(x, "x");
+            x.formula(LONGER, 0, NONE, 1, 0);
+            due("models()", x.models(), 6);
+            x.formula(HAS, 0, termOf(x, "0"), 0, 0);
+            due("spans()", x.spans(), 2);
+            dueModels("behind it", x, "0", "00", "01", "10");
+        });
         test("20 spans changes nothing", () -> {
             refused("spans()", Sample.MODEL.make().spans(), new Sample[] {Sample.MODEL}, TextSolver::spans);
-            refused("spans()", 0, WITH_CORE, TextSolver::spans);
+            refused("spans()", 0, Sample.WITH_CORE, TextSolver::spans);
         });
     }
 
@@ -538,7 +546,8 @@ public final class AskBoundaryTest extends Check {
         });
         test("21 each pair of rings of 1 to 6 STATES", () -> {
             for (int code = 0; code < 36; code++) {
-                dueRings(code / 6 + 1, code % 6 + 1);
+                dueRings(2, code / 6 + 1, code % 6 + 1);
+                dueRings(3, code / 6 + 1, code % 6 + 1);
             }
         });
         test("21 the longest that there can be: all 36 pairs of STATES", () -> {
@@ -570,13 +579,13 @@ public final class AskBoundaryTest extends Check {
         });
         test("21 meet changes nothing", () -> {
             int met = Sample.MODEL.make().meet(0, 1);
-            refused("meet(0, 1)", met, new Sample[] {Sample.MODEL, Sample.CORE}, x -> x.meet(0, 1));
+            refused("meet(0, 1)", met, Sample.SMALL, x -> x.meet(0, 1));
         });
     }
 
     /** The last states of two rings: the least length that is one less than a multiple of both. */
-    private static void dueRings(int states, int others) {
-        TextSolver x = new TextSolver();
+    private static void dueRings(int letters, int states, int others) {
+        TextSolver x = withLetters(letters);
         ringOf(x, states, states - 1);
         ringOf(x, others, others - 1);
         int length = 0;

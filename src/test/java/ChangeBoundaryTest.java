@@ -89,6 +89,11 @@ public final class ChangeBoundaryTest extends Check {
             x.deny(1, true);
             due("clear(2)", x.clear(2), 2);
         });
+        test("2 nothing of what was DENIED, LEFT OUT, GOOD or led elsewhere comes again", () -> {
+            for (int letters = 2; letters <= 3; letters++) {
+                nothingComesAgain(letters);
+            }
+        });
         test("2 full, cleared, and full again", () -> {
             TextSolver x = Sample.FULL_MODEL.make();
             x.clear(3);
@@ -112,20 +117,26 @@ public final class ChangeBoundaryTest extends Check {
             dueTold("cleared " + sample, x, letters, 0, 0, 0, 0, 1, 0);
             dueEverything("clear(" + letters + ") on " + sample, everything(x), want);
         }
-        TextSolver x = Sample.FULL_CORE.make();
-        x.clear(letters);
-        x.term();
-        x.machine(6);
-        x.formula(SAME, 0, 0, 0, 0);
-        x.formula(TAKEN, 0, 0, 0, 0);
-        due("a new TERM has no PARTS", x.part(0, 0), 1);
-        due("a new FORMULA is not DENIED", x.deny(1, false), 0);
-        due("a new FORMULA is not LEFT OUT", x.leave(0, false), 0);
-        due("a new STATE 0 is not GOOD", x.good(0, 0, false), 0);
-        for (int state = 0; state < 6; state++) {
-            for (int letter = 0; letter < letters; letter++) {
-                due("a new STEP", x.step(0, state, letter, 0), 0);
+    }
+
+    private static void nothingComesAgain(int letters) {
+        TextSolver x = withLetters(3);
+        for (int round = 0; round < 2; round++) {
+            x.term();
+            for (int f = 0; f < 10; f++) {
+                x.formula(SAME, 0, 0, 0, 0);
+                due("round " + round + ": deny(" + f + ", true)", x.deny(f, true), 0);
+                due("round " + round + ": leave(" + f + ", true)", x.leave(f, true), 0);
             }
+            for (int code = 0; code < 18; code++) {
+                int machine = code % 6 == 0 ? x.machine(6) : code / 6;
+                due("round " + round + ": good", x.good(machine, code % 6, true), 0);
+                for (int letter = 0; letter < x.told(0); letter++) {
+                    due("round " + round + ": step", x.step(machine, code % 6, letter, 5), 0);
+                }
+            }
+            due("round " + round + ": part(0, 0)", x.part(0, 0), 1);
+            x.clear(letters);
         }
     }
 
@@ -163,6 +174,13 @@ public final class ChangeBoundaryTest extends Check {
         });
         test("3 OUTSIDE ahead of ROOM where THE SPACE would be above 8000", () ->
             refusedOutside("text", OUTSIDE, new Sample[] {Sample.WIDE}, 0, 5, (x, n) -> x.text(n)));
+        test("3 a TEXT behind ten FORMULAS", () -> {
+            TextSolver x = tenFormulas();
+            due("text(5)", x.text(5), 0);
+            due("models()", x.models(), 63);
+            due("text(1)", x.text(1), 1);
+            due("models()", x.models(), 189);
+        });
         test("3 each way to choose four TEXTS of two letters", () -> everyFourTexts(2, 1, 3, 7, 15, 31, 63));
         test("3 each way to choose four TEXTS of three letters", () -> everyFourTexts(3, 1, 4, 13, 40, 121, 364));
     }
@@ -321,17 +339,17 @@ public final class ChangeBoundaryTest extends Check {
         test("7 UNKNOWN ahead of OUTSIDE", () ->
             refusedUnknown("step(n, -1, -1, -1)", Sample.ALL, MACHINES, (x, n) -> x.step(n, -1, -1, -1)));
         test("7 OUTSIDE: the STATE from which", () -> {
-            refusedOutside("step(0, n, 0, 0)", OUTSIDE, new Sample[] {Sample.MODEL, Sample.CORE}, 0, 2,
+            refusedOutside("step(0, n, 0, 0)", OUTSIDE, Sample.SMALL, 0, 2,
                 (x, n) -> x.step(0, n, 0, 0));
             refusedOutside("step(2, n, 0, 0)", OUTSIDE, Sample.FULL, 0, 5, (x, n) -> x.step(2, n, 0, 0));
         });
         test("7 OUTSIDE: the letter", () -> {
-            refusedOutside("step(0, 0, n, 0)", OUTSIDE, new Sample[] {Sample.MODEL, Sample.CORE}, 0, 1,
+            refusedOutside("step(0, 0, n, 0)", OUTSIDE, Sample.SMALL, 0, 1,
                 (x, n) -> x.step(0, 0, n, 0));
             refusedOutside("step(2, 5, n, 0)", OUTSIDE, Sample.FULL, 0, 2, (x, n) -> x.step(2, 5, n, 0));
         });
         test("7 OUTSIDE: the STATE to which", () -> {
-            refusedOutside("step(0, 0, 0, n)", OUTSIDE, new Sample[] {Sample.MODEL, Sample.CORE}, 0, 2,
+            refusedOutside("step(0, 0, 0, n)", OUTSIDE, Sample.SMALL, 0, 2,
                 (x, n) -> x.step(0, 0, 0, n));
             refusedOutside("step(2, 0, 0, n)", OUTSIDE, Sample.FULL, 0, 5, (x, n) -> x.step(2, 0, 0, n));
         });
@@ -364,7 +382,8 @@ public final class ChangeBoundaryTest extends Check {
         for (int round = 0; round < 3; round++) {
             for (int code = 0; code < all; code++) {
                 int led = round == 0 ? 0 : (code + round - 1) % 6;
-                due("step " + code, x.step(code / letters / 6, code / letters % 6, code % letters, (code + round) % 6), led);
+                int from = code / letters;
+                due("step " + code, x.step(from / 6, from % 6, code % letters, (code + round) % 6), led);
             }
         }
     }
@@ -377,9 +396,9 @@ public final class ChangeBoundaryTest extends Check {
         test("8 UNKNOWN ahead of OUTSIDE", () ->
             refusedUnknown("good(n, -1, true)", Sample.ALL, MACHINES, (x, n) -> x.good(n, -1, true)));
         test("8 OUTSIDE: the STATE, the MACHINE's own", () -> {
-            refusedOutside("good(0, n, true)", OUTSIDE, new Sample[] {Sample.MODEL, Sample.CORE}, 0, 2,
+            refusedOutside("good(0, n, true)", OUTSIDE, Sample.SMALL, 0, 2,
                 (x, n) -> x.good(0, n, true));
-            refusedOutside("good(1, n, false)", OUTSIDE, new Sample[] {Sample.MODEL, Sample.CORE}, 0, 1,
+            refusedOutside("good(1, n, false)", OUTSIDE, Sample.SMALL, 0, 1,
                 (x, n) -> x.good(1, n, false));
             refusedOutside("good(2, n, true)", OUTSIDE, Sample.FULL, 0, 5, (x, n) -> x.good(2, n, true));
         });
@@ -461,8 +480,11 @@ public final class ChangeBoundaryTest extends Check {
         test("9 LONGER: c is -40 to 40, with a TERM b", () -> longerBounds(0));
         test("9 LONGER: c is -40 to 40, with b NONE", () -> longerBounds(NONE));
         test("9 SUM: b is 2 to 16", () -> {
-            refusedOutside("formula(5, 0, n, 0, 0)", OUTSIDE, Sample.FILLED, 2, 16, (x, n) -> x.formula(SUM, 0, n, 0, 0));
-            refusedOutside("formula(5, 0, n, 1, 0)", OUTSIDE, Sample.FILLED, 2, 16, (x, n) -> x.formula(SUM, 0, n, 1, 0));
+            for (int c = 0; c <= 1; c++) {
+                int rest = c;
+                refusedOutside("formula(5, 0, n, " + c + ", 0)", OUTSIDE, Sample.FILLED, 2, 16,
+                    (x, n) -> x.formula(SUM, 0, n, rest, 0));
+            }
             for (int b : new int[] {-16, -2, 0}) {
                 refused("formula(5, 0, " + b + ", 0, 0)", OUTSIDE, Sample.FILLED, x -> x.formula(SUM, 0, b, 0, 0));
             }
@@ -479,7 +501,8 @@ public final class ChangeBoundaryTest extends Check {
             }
         });
         test("9 UNKNOWN ahead of OUTSIDE", () -> {
-            refusedUnknown("formula(1, n, NONE, 41, 0)", Sample.ALL, TERMS, (x, n) -> x.formula(LONGER, n, NONE, 41, 0));
+            refusedUnknown("formula(1, n, NONE, 41, 0)", Sample.ALL, TERMS,
+                (x, n) -> x.formula(LONGER, n, NONE, 41, 0));
             refused("formula(1, 0, -2, -41, 0)", UNKNOWN, Sample.FILLED, x -> x.formula(LONGER, 0, -2, -41, 0));
             refused("formula(1, 0, 12, 41, 0)", UNKNOWN, Sample.FILLED, x -> x.formula(LONGER, 0, 12, 41, 0));
             refusedUnknown("formula(5, n, 17, 0, 0)", Sample.ALL, TERMS, (x, n) -> x.formula(SUM, n, 17, 0, 0));

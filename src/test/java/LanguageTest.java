@@ -96,9 +96,9 @@ public final class LanguageTest {
 
     private static void source() throws IOException {
         String text = Files.readString(SOURCE).replaceAll("(?s)/\\*.*?\\*/", "").replaceAll("//.*", "");
-        String[] ruledOut = {"\\bthrow\\b", "\\btry\\b", "\\bcatch\\b", "\\bsynchronized\\b", "\\bassert\\b", "->", "::",
-            "Exact\\b", "\\bhashCode\\b", "\\btoString\\b", "^package\\b", "\\bstatic\\s*\\{", "\\bObject\\b",
-            "System\\.(?!arraycopy)", "\"", "import (?!java\\.util\\.(Arrays|ArrayList|List);)"};
+        String[] ruledOut = {"\\bthrow\\b", "\\btry\\b", "\\bcatch\\b", "\\bsynchronized\\b", "\\bassert\\b",
+            "->", "::", "Exact\\b", "\\bhashCode\\b", "\\btoString\\b", "^package\\b", "\\bstatic\\s*\\{",
+            "\\bObject\\b", "System\\.(?!arraycopy)", "\"", "import (?!java\\.util\\.(Arrays|ArrayList|List);)"};
         for (String pattern : ruledOut) {
             Matcher found = Pattern.compile(pattern, Pattern.MULTILINE).matcher(text);
             expect(!found.find(), "the source has " + pattern);

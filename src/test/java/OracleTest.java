@@ -445,10 +445,13 @@ public final class OracleTest {
     private final TextSolver solver = new TextSolver();
     private final Oracle oracle = new Oracle();
     private final List<String> calls = new ArrayList<>();
+    /** Every tenth run is one of many odd numbers. */
+    private final int oneIsOddOf;
     private boolean isWrong;
 
     private OracleTest(int seed) {
         random = new Random(seed);
+        oneIsOddOf = seed % 10 == 9 ? 4 : 40;
     }
 
     private void due(String call, int got, int want) {
@@ -461,9 +464,9 @@ public final class OracleTest {
 
     /** A number below a bound, now and then one next to it or far from it. */
     private int about(int bound) {
-        int chance = random.nextInt(40);
-        if (chance == 0) {
-            int[] odd = {-1, -2, bound, bound + 1, Integer.MAX_VALUE, Integer.MIN_VALUE, 8, 7};
+        if (random.nextInt(oneIsOddOf) == 0) {
+            int[] odd = {-1, -2, bound, bound + 1, 7, 8, 32, 64, Integer.MAX_VALUE, Integer.MIN_VALUE,
+                Integer.MAX_VALUE - random.nextInt(50), Integer.MIN_VALUE + random.nextInt(50), random.nextInt()};
             return odd[random.nextInt(odd.length)];
         }
         return bound <= 0 ? 0 : random.nextInt(bound);
@@ -491,11 +494,11 @@ public final class OracleTest {
         int d = termNumber();
         if (kind == 1) {
             b = random.nextInt(3) == 0 ? NONE : b;
-            c = random.nextInt(12) == 0 ? random.nextInt(90) - 45 : random.nextInt(7) - 3;
+            c = random.nextInt(12) == 0 ? about(90) - 45 : random.nextInt(7) - 3;
         } else if (kind == 2) {
             b = about(oracle.machines.size());
         } else if (kind == 5) {
-            b = random.nextInt(12) == 0 ? random.nextInt(20) : 2 + random.nextInt(4);
+            b = random.nextInt(12) == 0 ? about(20) : 2 + random.nextInt(4);
             c = about(b);
         }
         due("formula(" + kind + ", " + a + ", " + b + ", " + c + ", " + d + ")",
@@ -503,7 +506,7 @@ public final class OracleTest {
     }
 
     private void text() {
-        int most = random.nextInt(10) == 0 ? random.nextInt(8) - 1 : random.nextInt(4);
+        int most = random.nextInt(10) == 0 ? about(8) - 1 : random.nextInt(4);
         due("text(" + most + ")", solver.text(most), oracle.text(most));
     }
 
@@ -540,7 +543,7 @@ public final class OracleTest {
                 part();
                 break;
             case 9:
-                int states = random.nextInt(8);
+                int states = about(8);
                 due("machine(" + states + ")", solver.machine(states), oracle.machine(states));
                 break;
             case 10: case 11:
@@ -560,7 +563,7 @@ public final class OracleTest {
                 break;
             default:
                 if (random.nextInt(4) == 0) {
-                    int letters = 1 + random.nextInt(4);
+                    int letters = 1 + about(4);
                     due("clear(" + letters + ")", solver.clear(letters), oracle.clear(letters));
                 }
         }
@@ -568,7 +571,8 @@ public final class OracleTest {
 
     /** Most random formulas have no model together: leave some out, so that models are seen too. */
     private void makeRoomForModels() {
-        for (int f = 0; f < oracle.formulas.size() && oracle.allModels().isEmpty() && calls.size() < MOST_CALLS - 3; f++) {
+        for (int f = 0; f < oracle.formulas.size() && oracle.allModels().isEmpty() && calls.size() < MOST_CALLS - 3;
+                f++) {
             if (!oracle.formulas.get(f).left && random.nextBoolean()) {
                 boolean isLeft = random.nextBoolean();
                 due("leave(" + f + ", " + isLeft + ")", solver.leave(f, isLeft), oracle.leave(f, isLeft));
@@ -623,7 +627,7 @@ public final class OracleTest {
     }
 
     private void run(int changes) {
-        while (calls.size() < MOST_CALLS - 1 && !isWrong) {
+        while (calls.size() < MOST_CALLS && !isWrong) {
             if (calls.size() < changes || random.nextInt(8) == 0) {
                 change();
             } else if (random.nextInt(10) == 0) {
@@ -645,7 +649,9 @@ public final class OracleTest {
                 System.out.println("run " + seed + ", its last calls: " + test.calls.subList(from, test.calls.size()));
             }
         }
-        System.out.println(wrong == 0 ? "all " + RUNS + " random runs are as due" : wrong + " random runs are not as due");
+        System.out.println(wrong == 0
+            ? "all " + RUNS + " random runs are as due"
+            : wrong + " random runs are not as due");
         if (wrong != 0) {
             System.exit(1);
         }

@@ -578,8 +578,8 @@ public final class TermsBoundaryTest extends Check {
         });
     }
 
-    private static final String[] CHANGES = {"clear(2)", "text(1)", "term()", "part(0, 1)", "machine(1)", "step(0, 0, 0, 0)",
-        "good(0, 0, false)", "formula(0, 0, 0, 0, 0)", "deny(0, false)", "leave(0, false)"};
+    private static final String[] CHANGES = {"clear(2)", "text(1)", "term()", "part(0, 1)", "machine(1)",
+        "step(0, 0, 0, 0)", "good(0, 0, false)", "formula(0, 0, 0, 0, 0)", "deny(0, false)", "leave(0, false)"};
 
     /** Each of them is not refused by the small samples; those from step() on say what is so already. */
     private static int change(TextSolver x, int call) {
@@ -652,7 +652,8 @@ public final class TermsBoundaryTest extends Check {
         due("it is to be found again: core()", x.core(), hasModel ? STATE : 2);
     }
 
-    private static void sees(String what, int before, int behind, Consumer<TextSolver> change) {
+    /** The models 1 and 01: rows that have a 1 and lead to state 1 by it. The last one is at hand. */
+    private static TextSolver twoModels() {
         TextSolver x = new TextSolver();
         x.text(2);
         termOf(x, "x");
@@ -662,24 +663,63 @@ public final class TermsBoundaryTest extends Check {
         x.good(0, 1, true);
         x.formula(TAKEN, 0, 0, 0, 0);
         x.formula(HAS, 0, 1, 0, 0);
-        due(what + ": models() before", x.models(), before);
-        change.accept(x);
-        due(what + ": models() behind", x.models(), behind);
-        due(what + ": the last of them", x.model(behind - 1), behind > 0 ? 1 : 0);
-        due(what + ": none behind it", x.model(behind), 0);
+        due("models() before", x.models(), 2);
+        x.model(1);
+        return x;
     }
 
-    /** Models that were counted before a change are not those behind it. */
+    private static void sees(Consumer<TextSolver> change, String... rows) {
+        TextSolver x = twoModels();
+        change.accept(x);
+        dueModels("behind it", x, rows);
+    }
+
+    /** Models that were found before a change are not those behind it. */
     private static void changesAreSeen() {
-        // At first the models are 1 and 01: rows that have a 1 and lead to state 1 by it.
-        test("MODELS behind text()", () -> sees("text(1)", 2, 6, x -> x.text(1)));
-        test("MODELS behind part() of a", () -> sees("part(0, 1)", 2, 5, x -> x.part(0, 1)));
-        test("MODELS behind part() of b", () -> sees("part(1, 1)", 2, 0, x -> x.part(1, 1)));
-        test("MODELS behind step()", () -> sees("step(0, 1, 1, 1)", 2, 3, x -> x.step(0, 1, 1, 1)));
-        test("MODELS behind good()", () -> sees("good(0, 0, true)", 2, 4, x -> x.good(0, 0, true)));
-        test("MODELS behind formula()", () -> sees("formula", 2, 1, x -> x.formula(LONGER, 0, 1, 1, 0)));
-        test("MODELS behind deny()", () -> sees("deny(0, true)", 2, 2, x -> x.deny(0, true)));
-        test("MODELS behind leave()", () -> sees("leave(0, true)", 2, 4, x -> x.leave(0, true)));
+        test("MODELS before all changes", () -> sees(x -> x.told(0), "1", "01"));
+        test("MODELS behind clear()", () -> sees(x -> x.clear(3), ""));
+        test("MODELS behind text()", () -> sees(x -> x.text(1), "1,", "1,0", "1,1", "01,", "01,0", "01,1"));
+        test("MODELS behind a part() of a", () -> sees(x -> x.part(0, 1), "", "0", "00", "10", "11"));
+        test("MODELS behind a part() of b", () -> sees(x -> x.part(1, 1)));
+        test("MODELS behind step()", () -> sees(x -> x.step(0, 1, 1, 1), "1", "01", "11"));
+        test("MODELS behind good()", () -> sees(x -> x.good(0, 0, true), "1", "01", "10", "11"));
+        test("MODELS behind formula()", () -> sees(x -> x.formula(LONGER, 0, 1, 1, 0), "01"));
+        test("MODELS behind deny()", () -> sees(x -> x.deny(0, true), "10", "11"));
+        test("MODELS behind leave()", () -> sees(x -> x.leave(0, true), "1", "01", "10", "11"));
+        for (int kind = SAME; kind <= REPLACED; kind++) {
+            int k = kind;
+            test("MODELS behind a part() of each TERM of KIND " + kind, () -> partsAreSeen(k));
+        }
+    }
+
+    /** A part that comes when the models were counted is as one that was there before. */
+    private static void partsAreSeen(int kind) {
+        for (int term = 0; term < 4; term++) {
+            for (int what : new int[] {0, 1, 8}) {
+                TextSolver x = fourTerms();
+                TextSolver twin = fourTerms();
+                x.formula(kind, 0, kind == TAKEN ? 0 : kind == SUM ? 2 : 1, kind == SUM ? 0 : 2, 3);
+                x.models();
+                x.part(term, what);
+                twin.part(term, what);
+                twin.formula(kind, 0, kind == TAKEN ? 0 : kind == SUM ? 2 : 1, kind == SUM ? 0 : 2, 3);
+                due("models() behind part(" + term + ", " + what + ")", x.models(), twin.models());
+                x.model(x.models() / 2);
+                twin.model(twin.models() / 2);
+                dueRow("the middle one behind part(" + term + ", " + what + ")", x, 0, rowOf(twin, 0));
+            }
+        }
+    }
+
+    private static TextSolver fourTerms() {
+        TextSolver x = new TextSolver();
+        x.text(4);
+        termOf(x, "x");
+        termOf(x, "x1");
+        termOf(x, "1");
+        termOf(x, "");
+        ringOf(x, 3, 1);
+        return x;
     }
 
     public static void main(String[] args) {
